@@ -421,12 +421,12 @@ public final class TypeInference {
             if (count >= kinds.length) {
                 return;
             }
-            int kind = end == start ? BAD : kindOf(start, end);
-            kinds[count] = kind;
+            kinds[count] = end == start ? BAD : kindOf(start, end);
             starts[count] = start;
             ends[count] = end;
-            names[count] = kind == LOW || kind == HIGH ? nameOf(start, end) : NONE;
             count++;
+            boolean named = kinds[count - 1] == LOW || kinds[count - 1] == HIGH;
+            names[count - 1] = named ? nameOf(count - 1) : NONE;
         }
 
         private int kindOf(int start, int end) {
@@ -453,17 +453,17 @@ public final class TypeInference {
             return first == '-' ? ARROW : first == ':' ? OF_TYPE : IMPLIES;
         }
 
-        private int nameOf(int start, int end) {
-            int place = placeIn(NAMES, start, end);
+        private int nameOf(int i) {
+            int place = placeIn(NAMES, starts[i], ends[i]);
             if (place != NONE) {
                 return place;
             }
-            for (int i = 0; i < count; i++) {
-                if (names[i] >= OWN_NAMES && sameBytes(starts[i], ends[i], this, start, end)) {
-                    return names[i];
+            for (int k = 0; k < i; k++) {
+                if (names[k] >= OWN_NAMES && sameName(k, this, i)) {
+                    return names[k];
                 }
             }
-            return OWN_NAMES + count;
+            return OWN_NAMES + i;
         }
 
         /** The place of bytes in a list of words, each with a blank behind it. */
@@ -485,41 +485,36 @@ public final class TypeInference {
         private boolean sameChars(String list, int from, int start, int end) {
             for (int i = start; i < end; i++) {
                 int there = from + i - start;
-                if (there >= list.length() || list.charAt(there) != byteAt(i)) {
+                if (there >= list.length() || i >= size || list.charAt(there) != bytes[i]) {
                     return false;
                 }
             }
             return true;
-        }
-
-        private boolean sameBytes(int start, int end, Text other, int otherStart, int otherEnd) {
-            if (end - start != otherEnd - otherStart) {
-                return false;
-            }
-            for (int i = 0; i < end - start; i++) {
-                if (byteAt(start + i) != other.byteAt(otherStart + i)) {
-                    return false;
-                }
-            }
-            return true;
-        }
-
-        private boolean isToken(int i) {
-            return i >= 0 && i < count;
         }
 
         int kindAt(int i) {
-            return isToken(i) ? kinds[i] : END;
+            return i >= 0 && i < count ? kinds[i] : END;
         }
 
         int nameAt(int i) {
-            return isToken(i) ? names[i] : NONE;
+            return i >= 0 && i < count ? names[i] : NONE;
         }
 
         /** Names of two texts can only be compared by their bytes. */
         boolean sameName(int i, Text other, int j) {
-            return isToken(i) && other.isToken(j)
-                && sameBytes(starts[i], ends[i], other, other.starts[j], other.ends[j]);
+            if (i < 0 || i >= count || j < 0 || j >= other.count) {
+                return false;
+            }
+            int length = ends[i] - starts[i];
+            if (length != other.ends[j] - other.starts[j]) {
+                return false;
+            }
+            for (int k = 0; k < length; k++) {
+                if (bytes[starts[i] + k] != other.bytes[other.starts[j] + k]) {
+                    return false;
+                }
+            }
+            return true;
         }
     }
 
@@ -751,10 +746,13 @@ public final class TypeInference {
         boolean readUnit(Unit target, byte[] tape, int length) {
             begin(target, tape, length);
             try {
-                readRoot();
+                target.root = node(DECLS, 0);
+                declarations(target.root, true, 0);
+                require(END);
             } catch (IllegalStateException refused) {
                 return false;
             }
+            target.showAll(target.root, 0, text.count);
             target.findMeanings();
             return true;
         }
@@ -762,7 +760,9 @@ public final class TypeInference {
         boolean readGiven(Unit target, byte[] tape, int length) {
             begin(target, tape, length);
             try {
-                readWholeGiven();
+                target.root = node(GIVEN, 0);
+                given(target.root, 1);
+                require(END);
             } catch (IllegalStateException refused) {
                 return false;
             }
@@ -777,19 +777,6 @@ public final class TypeInference {
             at = 0;
             patternDecls = null;
             patternLead = null;
-        }
-
-        private void readRoot() {
-            unit.root = node(DECLS, 0);
-            declarations(unit.root, true, 0);
-            require(END);
-            unit.showAll(unit.root, 0, text.count);
-        }
-
-        private void readWholeGiven() {
-            unit.root = node(GIVEN, 0);
-            given(unit.root, 1);
-            require(END);
         }
 
         private void refuse() {
@@ -831,8 +818,8 @@ public final class TypeInference {
             return kind == LOW || kind == HIGH || kind == '(' || kind == '[' || top && kind == DATA;
         }
 
-        private boolean startsPattern() {
-            switch (here()) {
+        private static boolean startsPattern(int kind) {
+            switch (kind) {
                 case LOW: case BLANK: case NUMBER: case SIGN: case HIGH: case '(': case '[':
                     return true;
                 default:
@@ -840,8 +827,8 @@ public final class TypeInference {
             }
         }
 
-        private boolean startsAtom() {
-            return here() == HOLE || startsPattern();
+        private static boolean startsAtom(int kind) {
+            return kind == HOLE || startsPattern(kind);
         }
 
         private void declarations(Node decls, boolean top, int level) {
@@ -969,7 +956,7 @@ public final class TypeInference {
             at++;
             pattern = unit.lowCount;
             int firstLow = unit.lowCount;
-            for (int i = 0; i < MOST_TOKENS && startsPattern(); i++) {
+            for (int i = 0; i < MOST_TOKENS && startsPattern(here()); i++) {
                 equation.add(simplePattern(level));
                 equation.mark++;
             }
@@ -1084,7 +1071,7 @@ public final class TypeInference {
             boolean high = here() == HIGH;
             Node left = simplePattern(level);
             if (high && left.kind == HIGH) {
-                for (int i = 0; i < MOST_TOKENS && startsPattern(); i++) {
+                for (int i = 0; i < MOST_TOKENS && startsPattern(here()); i++) {
                     left.add(simplePattern(level));
                 }
             }
@@ -1177,7 +1164,7 @@ public final class TypeInference {
             pattern = unit.lowCount;
             int firstLow = unit.lowCount;
             lambda.add(simplePattern(level));
-            for (int i = 0; i < MOST_TOKENS && startsPattern(); i++) {
+            for (int i = 0; i < MOST_TOKENS && startsPattern(here()); i++) {
                 lambda.add(simplePattern(level));
             }
             skip(ARROW);
@@ -1257,12 +1244,12 @@ public final class TypeInference {
 
         private Node row(int level) {
             Node first = braced(level);
-            if (!startsAtom()) {
+            if (!startsAtom(here())) {
                 return first;
             }
             Node row = node(ROW, first.first);
             row.add(first);
-            for (int i = 0; i < MOST_TOKENS && startsAtom(); i++) {
+            for (int i = 0; i < MOST_TOKENS && startsAtom(here()); i++) {
                 row.add(braced(level));
             }
             return row;
@@ -1287,7 +1274,7 @@ public final class TypeInference {
         }
 
         private Node atom() {
-            if (!startsAtom()) {
+            if (!startsAtom(here())) {
                 refuse();
             }
             Node leaf = leaf();
@@ -1325,7 +1312,7 @@ public final class TypeInference {
         private int aroundStamp;
         private final int[] known = new int[KNOWN];
         /** The variables of the latest copy, as they come first, and what stands for them. */
-        private final int[] copied = new int[MOST_PARTS + 4];
+        private final int[] originals = new int[MOST_PARTS + 4];
         private final int[] copies = new int[MOST_PARTS + 4];
         private int copiedCount;
 
@@ -1376,7 +1363,7 @@ public final class TypeInference {
             return stack[top];
         }
 
-        private int add(int kind, int arity, int link) {
+        int add(int kind, int arity, int link) {
             if (count >= kinds.length) {
                 int more = 2 * kinds.length;
                 kinds = Arrays.copyOf(kinds, more);
@@ -1398,12 +1385,6 @@ public final class TypeInference {
 
         int variable() {
             return add(VARIABLE, 0, NONE);
-        }
-
-        int fixed(int given) {
-            int fixed = add(FIXED, 0, NONE);
-            classes[fixed] = given;
-            return fixed;
         }
 
         /** A type of a kind with the latest types that were pushed, which are taken away. */
@@ -1483,39 +1464,47 @@ public final class TypeInference {
             for (int i = 0; i < FAR && top > base + 1 && wrong == 0; i++) {
                 int b = find(pop());
                 int a = find(pop());
-                if (a != b) {
-                    wrong = joinDifferent(a, b, movable);
+                if (a == b) {
+                    continue;
+                }
+                boolean turned = kinds[a] != VARIABLE || a < movable;
+                int variable = turned ? b : a;
+                int other = turned ? a : b;
+                if (kinds[variable] == VARIABLE && variable >= movable) {
+                    wrong = isWithin(variable, other) ? ENDLESS : 0;
+                    links[variable] = wrong == 0 ? other : NONE;
+                } else if (kinds[a] != kinds[b] || arities[a] != arities[b] || kinds[a] <= FIXED) {
+                    wrong = NOT_ALIKE;
+                } else {
+                    pushPairs(a, b);
                 }
             }
             top = base;
             return wrong;
         }
 
-        private int joinDifferent(int a, int b, int movable) {
-            if (kinds[a] == VARIABLE && a >= movable) {
-                return bind(a, b);
-            }
-            if (kinds[b] == VARIABLE && b >= movable) {
-                return bind(b, a);
-            }
-            if (kinds[a] != kinds[b] || arities[a] != arities[b] || kinds[a] == VARIABLE || kinds[a] == FIXED) {
-                return NOT_ALIKE;
-            }
+        private void pushPairs(int a, int b) {
             for (int i = arities[a] - 1; i >= 0; i--) {
                 push(kids[links[a] + i]);
                 push(kids[links[b] + i]);
             }
-            return 0;
         }
 
-        private int bind(int variable, int other) {
+        private boolean isWithin(int variable, int other) {
+            int base = top;
             stamp++;
-            mark(other, seen, stamp);
-            if (seen[variable] == stamp) {
-                return ENDLESS;
+            push(other);
+            for (int i = 0; i < FAR && top > base; i++) {
+                int found = find(pop());
+                if (seen[found] != stamp) {
+                    seen[found] = stamp;
+                    for (int k = 0; k < arities[found]; k++) {
+                        push(kids[links[found] + k]);
+                    }
+                }
             }
-            links[variable] = other;
-            return 0;
+            top = base;
+            return seen[variable] == stamp;
         }
 
         /** Marks a type and all types in it, but no variable that is FREE in some scheme. */
@@ -1527,7 +1516,9 @@ public final class TypeInference {
                 boolean free = kinds[found] == VARIABLE && owners[found] != NOBODY;
                 if (marks[found] != with && !free) {
                     marks[found] = with;
-                    pushKids(found);
+                    for (int k = 0; k < arities[found]; k++) {
+                        push(kids[links[found] + k]);
+                    }
                 }
             }
             top = base;
@@ -1574,27 +1565,25 @@ public final class TypeInference {
             top = base;
         }
 
-        /** A scheme's type with new variables, or FIXED types, for its FREE ones. */
-        int copy(int any, int owner, boolean fixing) {
-            copiedCount = 0;
-            return owner == NOBODY ? any : copyWithin(any, owner, fixing, 0);
-        }
-
-        private int copyWithin(int any, int owner, boolean fixing, int depth) {
+        /**
+         * A scheme's type with new variables, or FIXED types, for its FREE ones. Whoever wants a new
+         * copy begins with no variable copied.
+         */
+        private int copy(int any, int owner, boolean fixing, int depth) {
             int found = find(any);
+            if (owner == NOBODY || depth > MOST_PARTS) {
+                return found;
+            }
             if (kinds[found] == VARIABLE) {
                 return owners[found] == owner ? standIn(found, fixing) : found;
             }
             int arity = arities[found];
-            if (depth > MOST_PARTS) {
-                return found;
-            }
             boolean changed = false;
             for (int i = 0; i < arity; i++) {
                 int kid = find(kids[links[found] + i]);
-                int copy = copyWithin(kid, owner, fixing, depth + 1);
-                changed = changed || copy != kid;
-                push(copy);
+                int copied = copy(kid, owner, fixing, depth + 1);
+                changed = changed || copied != kid;
+                push(copied);
             }
             if (!changed) {
                 top -= arity;
@@ -1605,13 +1594,14 @@ public final class TypeInference {
 
         private int standIn(int variable, boolean fixing) {
             for (int i = 0; i < copiedCount; i++) {
-                if (copied[i] == variable) {
+                if (originals[i] == variable) {
                     return copies[i];
                 }
             }
-            int other = fixing ? fixed(classes[variable]) : variable();
-            if (copiedCount < copied.length) {
-                copied[copiedCount] = variable;
+            int other = add(fixing ? FIXED : VARIABLE, 0, NONE);
+            classes[other] = fixing ? classes[variable] : 0;
+            if (copiedCount < originals.length) {
+                originals[copiedCount] = variable;
                 copies[copiedCount] = other;
                 copiedCount++;
             }
@@ -1687,7 +1677,8 @@ public final class TypeInference {
         /** Whether a node before this one in its chain has its kind and its name. */
         private boolean isAhead(Node chain, Node node) {
             for (Node other = chain; other != null && other != node; other = other.next) {
-                if (other.kind == node.kind && nameOf(other) == nameOf(node)) {
+                boolean same = unit.text.nameAt(other.first) == unit.text.nameAt(node.first);
+                if (other.kind == node.kind && same) {
                     return true;
                 }
             }
@@ -1734,7 +1725,7 @@ public final class TypeInference {
                 return a == b;
             }
             boolean named = a.kind == HIGH || a.kind == LOW;
-            if (a.kind != b.kind || named && nameOf(a) != nameOf(b)) {
+            if (a.kind != b.kind || named && unit.text.nameAt(a.first) != unit.text.nameAt(b.first)) {
                 return false;
             }
             Node other = b.child;
@@ -1758,7 +1749,7 @@ public final class TypeInference {
 
         int partOf(int name) {
             for (int i = 0; i < partCount; i++) {
-                if (nameOf(parts[i]) == name) {
+                if (unit.text.nameAt(parts[i].first) == name) {
                     return i;
                 }
             }
@@ -1767,7 +1758,7 @@ public final class TypeInference {
 
         int fieldOf(int name) {
             for (int i = 0; i < fieldCount; i++) {
-                if (nameOf(fields[i]) == name) {
+                if (unit.text.nameAt(fields[i].first) == name) {
                     return i;
                 }
             }
@@ -1858,8 +1849,13 @@ public final class TypeInference {
             if (told.kind == LOW && !anyLow && !isParameter(datum, told)) {
                 return told.first;
             }
-            if (told.kind == HIGH && told.childCount() != typesOf(text, told.first)) {
-                return told.first;
+            if (told.kind == HIGH) {
+                int name = text.nameAt(told.first);
+                int number = name >= INT_NAME && name <= BOOL_NAME ? NONE : dataOf(text, told.first);
+                boolean built = number == NONE && name >= INT_NAME && name <= BOOL_NAME;
+                if (!built && number == NONE || told.childCount() != (built ? 0 : data[number].mark)) {
+                    return told.first;
+                }
             }
             int wrong = NONE;
             for (Node node = told.child; node != null && wrong == NONE; node = node.next) {
@@ -1871,21 +1867,12 @@ public final class TypeInference {
         private boolean isParameter(Node datum, Node low) {
             Node first = datum == null ? null : datum.child;
             for (Node node = first; node != null; node = node.next) {
-                if (node.kind == PARAMETER && nameOf(node) == nameOf(low)) {
+                boolean same = unit.text.nameAt(node.first) == unit.text.nameAt(low.first);
+                if (node.kind == PARAMETER && same) {
                     return true;
                 }
             }
             return false;
-        }
-
-        /** How many types a HIGH of a type has, or NONE. */
-        private int typesOf(Text text, int token) {
-            int name = text.nameAt(token);
-            if (name >= INT_NAME && name <= BOOL_NAME) {
-                return 0;
-            }
-            int number = dataOf(text, token);
-            return number == NONE ? NONE : data[number].mark;
         }
 
         /** The first wrong token of a given type, or NONE. */
@@ -1966,7 +1953,7 @@ public final class TypeInference {
                     return variableTypes[i];
                 }
             }
-            int made = fixing ? types.fixed(0) : types.variable();
+            int made = types.add(fixing ? FIXED : VARIABLE, 0, NONE);
             types.owners[made] = owner;
             if (variableCount < variableNames.length) {
                 variableNames[variableCount] = name;
@@ -2046,17 +2033,13 @@ public final class TypeInference {
             heads = all;
         }
 
-        private static int markOf(int bit, int token) {
-            return bit * 1024 + token;
-        }
-
         void add(int bit, int of, int token) {
             if (count >= marks.length) {
                 ofTypes = Arrays.copyOf(ofTypes, 2 * ofTypes.length);
                 marks = Arrays.copyOf(marks, 2 * marks.length);
             }
             ofTypes[count] = of;
-            marks[count] = markOf(bit, token);
+            marks[count] = bit * 1024 + token;
             count++;
         }
 
@@ -2144,7 +2127,7 @@ public final class TypeInference {
                 stayMarks = Arrays.copyOf(stayMarks, 2 * stayMarks.length);
             }
             stayTypes[stayCount] = variable;
-            stayMarks[stayCount] = markOf(bit, wrongToken);
+            stayMarks[stayCount] = bit * 1024 + wrongToken;
             stayCount++;
         }
 
@@ -2211,7 +2194,9 @@ public final class TypeInference {
             local = localOn;
             begin();
             try {
-                typeHeads();
+                failIf(WRONG_TYPE, heads.collect(unit));
+                failIf(WRONG_TYPE, heads.wrongInData());
+                failIf(TOO_LARGE, heads.build());
                 typeDecls(unit.root);
                 finish();
             } catch (IllegalStateException found) {
@@ -2246,15 +2231,9 @@ public final class TypeInference {
             }
         }
 
-        private void typeHeads() {
-            failIf(WRONG_TYPE, heads.collect(unit));
-            failIf(WRONG_TYPE, heads.wrongInData());
-            failIf(TOO_LARGE, heads.build());
-        }
-
         /** What the whole unit leaves open is settled; then nothing may be too large. */
         private void finish() {
-            reduce(0);
+            failAtWant(wants.reduce(0, true));
             for (int i = 0; i < wants.stayCount; i++) {
                 settle(wants.stayTypes[i]);
             }
@@ -2285,17 +2264,18 @@ public final class TypeInference {
             if (types.parts(scheme) > MOST_PARTS) {
                 fail(TOO_LARGE, token);
             }
-            int copy = types.copy(scheme, owner, false);
+            types.copiedCount = 0;
+            int copy = types.copy(scheme, owner, false, 0);
             for (int i = 0; i < types.copiedCount; i++) {
-                wants.addAll(types.classes[types.copied[i]], types.copies[i], token);
+                wants.addAll(types.classes[types.originals[i]], types.copies[i], token);
             }
             return copy;
         }
 
-        private void reduce(int since) {
-            int wrong = wants.reduce(since, true);
-            if (wrong != 0) {
-                fail(wrong, wants.wrongToken);
+        /** What the wants that were reduced led to. */
+        private void failAtWant(int number) {
+            if (number != 0) {
+                fail(number, wants.wrongToken);
             }
         }
 
@@ -2318,6 +2298,12 @@ public final class TypeInference {
             switch (node.kind) {
                 case ROW: case LIST: case TUPLE: case CHAIN: case IF:
                     break;
+                case LOW:
+                    Low low = unit.meaningAt(node.first);
+                    return low != null ? instance(low.scheme, low.owner, node.first)
+                        : instance(schemeOfLow(node.first), HEADS, node.first);
+                case HIGH:
+                    return instance(schemeOfHigh(node.first), HEADS, node.first);
                 case LAMBDA:
                     return typeFunction(node);
                 case LET:
@@ -2342,44 +2328,33 @@ public final class TypeInference {
                 int it = part.kind == COLON ? part.first : typeExp(part);
                 soFar = withPart(node, part, soFar, it);
             }
-            return whole(node, soFar);
+            return node.kind == CHAIN ? chained(node.childCount()) : whole(node, soFar);
         }
 
         private int typeLeaf(Node node) {
-            switch (node.kind) {
-                case LOW:
-                    return typeLow(node.first);
-                case HIGH:
-                    return instance(schemeOfHigh(node.first), HEADS, node.first);
-                case NUMBER:
-                    int number = types.variable();
-                    wants.add(NUM, number, node.first);
-                    return number;
-                case SIGN:
-                    return CHAR_TYPE;
-                default:
-                    int open = types.variable();
-                    if (node.mark >= 0 && node.mark < holeTypes.length) {
-                        holeTypes[node.mark] = open;
-                    }
-                    return open;
+            if (node.kind == SIGN) {
+                return CHAR_TYPE;
             }
+            int open = types.variable();
+            if (node.kind == NUMBER) {
+                wants.add(NUM, open, node.first);
+            } else if (node.mark >= 0 && node.mark < holeTypes.length) {
+                holeTypes[node.mark] = open;
+            }
+            return open;
         }
 
-        private int typeLow(int token) {
-            Low low = unit.meaningAt(token);
-            if (low != null) {
-                return instance(low.scheme, low.owner, token);
-            }
+        /** The scheme of a LOW that is KNOWN or a field. */
+        private int schemeOfLow(int token) {
             int name = unit.text.nameAt(token);
             if (name >= 0 && name < KNOWN) {
-                return instance(types.known[name], HEADS, token);
+                return types.known[name];
             }
             int field = heads.fieldOf(name);
             if (field == NONE) {
                 fail(NO_MEANING, token);
             }
-            return instance(heads.fieldSchemes[field], HEADS, token);
+            return heads.fieldSchemes[field];
         }
 
         private int schemeOfHigh(int token) {
@@ -2433,8 +2408,6 @@ public final class TypeInference {
                     return types.list(soFar == NONE ? types.variable() : soFar);
                 case TUPLE:
                     return types.compound(TUPLE_OF, node.childCount());
-                case CHAIN:
-                    return chained(node.childCount());
                 default:
                     return soFar;
             }
@@ -2557,7 +2530,8 @@ public final class TypeInference {
 
         private int typeUpdate(Node brace, int old) {
             int number = dataOfFields(brace);
-            int whole = types.copy(heads.wholes[number], HEADS, false);
+            types.copiedCount = 0;
+            int whole = types.copy(heads.wholes[number], HEADS, false, 0);
             unify(whole, old, brace.first);
             for (Node field = brace.child; field != null; field = field.next) {
                 int place = heads.fieldOf(unit.text.nameAt(field.first));
@@ -2575,11 +2549,11 @@ public final class TypeInference {
             int general = heads.wholes[number];
             types.copiedCount = 0;
             for (int i = 0; i < MOST_TYPES && i < types.arities[general]; i++) {
-                types.copied[i] = types.kid(general, i);
+                types.originals[i] = types.kid(general, i);
                 types.copies[i] = types.kid(whole, i);
                 types.copiedCount++;
             }
-            return types.copyWithin(heads.fieldTypes[field], HEADS, false, 0);
+            return types.copy(heads.fieldTypes[field], HEADS, false, 0);
         }
 
         /** Looks at the fields of another one with { }: the number of their data. */
@@ -2617,7 +2591,7 @@ public final class TypeInference {
                 int it = part.kind == COLON ? part.first : typePat(part);
                 soFar = withPart(node, part, soFar, it);
             }
-            return whole(node, soFar);
+            return node.kind == CHAIN ? chained(node.childCount()) : whole(node, soFar);
         }
 
         private int typePatLeaf(Node node) {
@@ -2878,7 +2852,7 @@ public final class TypeInference {
 
         private void close(Node decls, int group, int since) {
             markAround(decls, group);
-            reduce(since);
+            failAtWant(wants.reduce(since, true));
             for (int i = 0; i < unit.lowCount; i++) {
                 Low low = unit.lows[i];
                 if (isOfGroup(low, decls, group) && types.parts(low.scheme) > MOST_PARTS) {
@@ -2944,13 +2918,14 @@ public final class TypeInference {
         private void typeGivenBinding(Node decls, Node lead) {
             int since = wants.count;
             int before = types.count;
-            int scheme = types.copy(lead.low.scheme, lead.low.owner, true);
+            types.copiedCount = 0;
+            int scheme = types.copy(lead.low.scheme, lead.low.owner, true, 0);
             int behind = types.count;
             for (Node decl = lead; decl != null && decl.lead == lead; decl = decl.next) {
                 unify(scheme, typeFunction(decl), decl.first);
             }
             markAround(decls, FAR);
-            reduce(since);
+            failAtWant(wants.reduce(since, true));
             for (int i = 0; i < wants.stayCount; i++) {
                 if (types.isAround(wants.stayTypes[i])) {
                     wants.goOutward(i);
@@ -3052,9 +3027,10 @@ public final class TypeInference {
             int oldCount = types.count;
             int oldKidCount = types.kidCount;
             int since = wants.count;
-            int instance = types.copy(scheme, owner, false);
+            types.copiedCount = 0;
+            int instance = types.copy(scheme, owner, false, 0);
             for (int i = 0; i < types.copiedCount; i++) {
-                wants.addAll(types.classes[types.copied[i]], types.copies[i], 0);
+                wants.addAll(types.classes[types.originals[i]], types.copies[i], 0);
             }
             boolean match = types.join(instance, type, oldCount) == 0 && wants.reduce(since, false) == 0;
             for (int i = 0; i < wants.stayCount && match; i++) {
