@@ -88,7 +88,6 @@ public final class TypeInference {
     private static final int EQ = 1;
     private static final int ORD = 2;
     private static final int NUM = 4;
-    private static final int ALL_CLASSES = 7;
 
     /* Kinds of types; the one of data number d is OF_DATA + d. */
     private static final int VARIABLE = 0;
@@ -148,7 +147,6 @@ public final class TypeInference {
         writer = new Writer(typer);
         narrow = true;
         local = true;
-        parser.readUnit(unit, tape, 0);
     }
 
     public int feed(int a, int b, int c, int d, int e) throws UnsupportedOperationException {
@@ -899,7 +897,6 @@ public final class TypeInference {
                 Node brace = braces(TYPE, 0);
                 part.child = brace.child;
                 part.tail = brace.tail;
-                part.mark = 1;
                 return part;
             }
             for (int i = 0; i < MOST_TOKENS && startsType(); i++) {
@@ -1656,9 +1653,7 @@ public final class TypeInference {
         }
 
         private int collectDatum(Node datum) {
-            int name = nameOf(datum);
-            boolean there = name >= INT_NAME && name <= BOOL_NAME || dataOf(unit.text, datum.first) != NONE;
-            if (there || dataCount >= data.length) {
+            if (kindOfHead(unit.text, datum.first) != NONE || dataCount >= data.length) {
                 return datum.first;
             }
             data[dataCount] = datum;
@@ -1738,10 +1733,15 @@ public final class TypeInference {
             return other == null;
         }
 
-        int dataOf(Text text, int token) {
+        /** The kind of the types that a HIGH of a type tells, or NONE. */
+        private int kindOfHead(Text text, int token) {
+            int name = text.nameAt(token);
+            if (name >= INT_NAME && name <= BOOL_NAME) {
+                return INT + name - INT_NAME;
+            }
             for (int i = 0; i < dataCount; i++) {
                 if (text.sameName(token, unit.text, data[i].first)) {
-                    return i;
+                    return OF_DATA + i;
                 }
             }
             return NONE;
@@ -1850,10 +1850,9 @@ public final class TypeInference {
                 return told.first;
             }
             if (told.kind == HIGH) {
-                int name = text.nameAt(told.first);
-                int number = name >= INT_NAME && name <= BOOL_NAME ? NONE : dataOf(text, told.first);
-                boolean built = number == NONE && name >= INT_NAME && name <= BOOL_NAME;
-                if (!built && number == NONE || told.childCount() != (built ? 0 : data[number].mark)) {
+                int kind = kindOfHead(text, told.first);
+                int arity = kind == NONE ? NONE : kind < OF_DATA ? 0 : data[kind - OF_DATA].mark;
+                if (told.childCount() != arity) {
                     return told.first;
                 }
             }
@@ -1984,10 +1983,8 @@ public final class TypeInference {
                 case TUPLE:
                     return types.compound(TUPLE_OF, count);
                 default:
-                    int name = text.nameAt(told.first);
-                    boolean own = name < INT_NAME || name > BOOL_NAME;
-                    int kind = own ? OF_DATA + Math.max(0, dataOf(text, told.first)) : INT + name - INT_NAME;
-                    return types.compound(kind, count);
+                    int kind = kindOfHead(text, told.first);
+                    return types.compound(kind == NONE ? INT : kind, count);
             }
         }
 
@@ -2154,11 +2151,11 @@ public final class TypeInference {
         }
 
         boolean isNumeric(int variable) {
-            return (masks[variable] & NUM) != 0;
+            return variable < masks.length && (masks[variable] & NUM) != 0;
         }
 
         int firstToken(int variable) {
-            return firsts[variable];
+            return variable < firsts.length ? firsts[variable] : 0;
         }
     }
 
