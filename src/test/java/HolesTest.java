@@ -47,6 +47,7 @@ public final class HolesTest {
         fitting("x = 'c'; f = let {x = True} in ['c', _]", "Char /");
         fitting("x = 'c'; f = ['c', let {x = _} in 'd']", "a / 11");
         fitting("f eq = [_, eq]", "a / 1");
+        fitting("f eq = _ 'a' 'b' :: Bool", "Char -> Char -> Bool / -5");
         fitting("f = ['c', _]; g = 'd'; h x = x; k = error []", "Char / 8 17");
         fitting("f = ('c' : [_]); g = (\\x -> x) (\\x -> 'c')", "Char /");
         fitting("f = case 'c' of {x -> [x, _]; y -> \"\"}", "1@16");
@@ -139,6 +140,8 @@ public final class HolesTest {
         covered("f x = x", large + " -> " + large.replaceFirst("Int", "Bool"), "false");
         covered("f = error", "[Char] -> [" + large + "] -> " + large, "true");
         covered("f x = eq x x", large + " -> Bool", "true");
+        covered("f x = eq x x", "(" + large + ", " + large + ") -> Bool", "true");
+        covered("f x = eq x x", "(" + large + ", [a], " + large + ") -> Bool", "false");
         covered("f x = x", "[".repeat(38) + "a" + "]".repeat(38) + " -> a", "false");
         covered("f = error []", "[".repeat(38) + "a" + "]".repeat(38), "true");
         covered("f = error []", "[".repeat(39) + "a" + "]".repeat(39), "IllegalArgumentException");

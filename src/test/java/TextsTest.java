@@ -208,6 +208,8 @@ public final class TextsTest {
         reads("f = " + times("if x then x else ", 39) + "1", "ok");
         reads("f = " + times("if x then x else ", 40) + "1", "1@198");
         reads("f = " + times("(", 38) + "let {x :: a; x = 1} in x" + times(")", 38), "1@44");
+        reads("f = " + times("(", 38) + "let {x :: Eq a => a; x = 1} in x" + times(")", 38), "1@47");
+        reads("f = " + times("(", 39) + "let {x :: Eq a => a; x = 1} in x" + times(")", 39), "1@45");
         reads("f = " + times("(", 37) + "let {x :: a; x = 1} in x" + times(")", 37), "ok");
     }
 

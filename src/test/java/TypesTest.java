@@ -173,6 +173,8 @@ public final class TypesTest {
         typed("f x = let {g y = [x, y]} in (g 'c', g 'd')", "Char -> ([Char], [Char])");
         typed("f x = let {g y = [x, y]} in (g 'c', g True)", "6@20");
         typed("f x = let {g y = eq x y} in g", "Eq a => a -> a -> Bool");
+        typed("f x = let {g y = eq x x} in g", "Eq a => a -> b -> Bool");
+        typed("f x = let {g y = eq x y} in g (\\z -> z)", "8@8");
         typed("f x = let {g y z = (eq x y, less z z)} in g", "(Eq a, Ord b) => a -> a -> b -> (Bool, Bool)");
         typed("f x = let {g y = let {h z = (x, y, z)} in h} in (g 'c' True, g True 'c')",
             "a -> ((a, Char, Bool), (a, Bool, Char))");
