@@ -1445,15 +1445,21 @@ public final class TypeInference {
             int found = 0;
             push(any);
             while (top > base && found <= MOST_PARTS) {
-                pushKids(find(pop()));
+                int whole = find(pop());
+                for (int k = 0; k < arities[whole]; k++) {
+                    push(kids[links[whole] + k]);
+                }
                 found++;
             }
             top = base;
             return found;
         }
 
-        /** Makes two types alike: 0, or the fault; only variables from movable on may become others. */
-        int join(int left, int right, int movable) {
+        /**
+         * Makes two types alike: 0, or the fault; only variables from movable on may become others. A
+         * limit on PARTS holds for every pair within the two, as it is when it is come to.
+         */
+        int join(int left, int right, int movable, boolean limited) {
             int base = top;
             int wrong = 0;
             push(left);
@@ -1461,6 +1467,10 @@ public final class TypeInference {
             for (int i = 0; i < FAR && top > base + 1 && wrong == 0; i++) {
                 int b = find(pop());
                 int a = find(pop());
+                if (limited && (parts(a) > MOST_PARTS || parts(b) > MOST_PARTS)) {
+                    wrong = TOO_LARGE;
+                    break;
+                }
                 if (a == b) {
                     continue;
                 }
@@ -2248,10 +2258,7 @@ public final class TypeInference {
         }
 
         private void unify(int left, int right, int token) {
-            if (types.parts(left) > MOST_PARTS || types.parts(right) > MOST_PARTS) {
-                fail(TOO_LARGE, token);
-            }
-            int wrong = types.join(left, right, 0);
+            int wrong = types.join(left, right, 0, true);
             if (wrong != 0) {
                 fail(wrong, token);
             }
@@ -3029,7 +3036,7 @@ public final class TypeInference {
             for (int i = 0; i < types.copiedCount; i++) {
                 wants.addAll(types.classes[types.originals[i]], types.copies[i], 0);
             }
-            boolean match = types.join(instance, type, oldCount) == 0 && wants.reduce(since, false) == 0;
+            boolean match = types.join(instance, type, oldCount, false) == 0 && wants.reduce(since, false) == 0;
             for (int i = 0; i < wants.stayCount && match; i++) {
                 match = wants.stayTypes[i] >= oldCount;
             }

@@ -224,14 +224,53 @@ public final class FaultsTest {
         // The type of a behind ::, ahead of its being another one.
         typed("f = 'c' :: Int -> Int -> Int -> Int -> Int -> " + five, "10@3");
         typed("a = (1, (2, 3)); b = let {c = (a, a); d = (c, c); e = (d, d); f = (e, e); g = (f, f)} in g", "10@40");
-        // Pairs of pairs: 31 parts within x -> r, then 63.
-        typed("d x = (x, x); f = d (d (d (d 'c')))", "ok");
-        typed("d x = (x, x); f = d (d (d (d (d 'c'))))", "10@9");
-        typed("d x = (x, x); f = d (d (d (d (d (d 'c')))))", "10@13");
-        typed("d x = (x, x); f = [d (d (d (d (d 'c')))), 'c']", "10@27");
-        typed("d x = (x, x); f y = (\\x -> y) (d (d (d (d (d 'c')))))", "10@19");
-        typed("d x = (x, x); f x = case d (d (d (d x))) of {y -> (y, d y, eq (y, y))}", "10@35");
-        typed("d x = (x, x); f x = (d (d (d (d (d x)))) 'c' 'c')", "10@27");
+        String big = "d (d (d (d 'c')))";
+        // A tuple of two with 31 parts each has 63, and nobody has looked at it yet.
+        String pair = "(" + big + ", " + big + ")";
+        typed("d x = (x, x); f = " + big, "ok");
+        typed("d x = (x, x); f = " + pair, "10@9");
+        typed("d x = (x, x); f = [" + pair + ", 'c']", "10@38");
+        typed("d x = (x, x); f y = (\\x -> y) " + pair, "10@18");
+        typed("d x = (x, x); f x = case d (d (d (d x))) of {y -> (y, eq (y, y))}", "10@32");
+        typed("d x = (x, x); f x = " + pair + " 'c' 'c'", "10@37");
+    }
+
+    /** Types within two that are unified, as they are when they are come to. */
+    private static void sizesWithin() {
+        String d = "d x = (x, x); ";
+        String big = "d (d (d (d 'c')))";
+        // 31 parts within x -> r; then a is that, and (a, a) has 63.
+        typed(d + "f = d (d (d (d (d 'c'))))", "10@13");
+        typed(d + "f = d (d (d (d (d (d 'c')))))", "10@15");
+        typed("f x = (x, x, x, x, x); g = f (f (f 1))", "10@19");
+        // 60 parts, and 61.
+        String p29 = "(d (d (d 'c')), d (d 'c'), d 'c', d 'c')";
+        typed(d + "e x = (x, x, 'c'); f = e " + p29, "ok");
+        typed(d + "f = d [" + p29 + "]", "10@12");
+        // The right one of the two, and the left one.
+        typed(d + "f y z = [(z, y), (" + big + ", (z, z))]", "10@20");
+        typed(d + "f y z = [(" + big + ", (z, z)), (z, y)]", "10@34");
+        String five = "('c', 'c', 'c', 'c', 'c')";
+        String pat = "(" + five + ", " + five + ", " + five + ", " + five + ", " + five + ")";
+        typed("f y = case (y, (y, y)) of {(" + pat + ", z) -> 'c'}", "10@15");
+        typed(d + "data T a b = C a b; f y = case [C y (y, y), C (" + big + ") True] of {_ -> 'c'}", "10@31");
+        // Ahead of all else that could be said of that pair: not alike, endless, alike already.
+        typed(d + "f y = [(y, (y, y)), (" + big + ", 'c')]", "10@23");
+        typed(d + "f y = [(y, (y, y)), ('c', 'c')]", "6@23");
+        typed(d + "f y z = [((y, y), 'c'), ((z, " + big + "), (y, y))]", "10@24");
+        typed(d + "f y z = [(y, (y, y)), (d (d (d (d z))), z)]", "10@24");
+        typed(d + "f y z = [(y, (y, y)), (d (d (d z)), z)]", "7@24");
+        typed(d + "f y z = case [z, (y, y)] of {_ -> [(y, z), (" + big + ", z)]}", "10@34");
+        typed(d + "f y z = case [z, (y, y)] of {_ -> [(y, z), (d (d 'c'), z)]}", "ok");
+        // What is to the left of a pair comes ahead of it, with all that is within.
+        typed(d + "f y = [(y, 'c', (y, y)), (" + big + ", True, True)]", "6@25");
+        typed(d + "f y = [(y, (y, y), 'c'), (" + big + ", True, True)]", "10@25");
+        typed(d + "f y z = [((y, 'c'), (y, y)), ((" + big + ", True), z)]", "6@28");
+        typed(d + "f y z = [((y, y), y), ((z, " + big + "), (y, y))]", "10@24");
+        // What grows behind its own turn is not looked at again there.
+        typed(d + "f y z = [(y, " + big + "), (" + big + ", z)]", "10@9");
+        typed(d + "f y z = ([(y, " + big + "), (" + big + ", z)], 'c' 'c')", "6@49");
+        typed(d + "f y z = [((y, y), y), (z, " + big + ")]", "10@9");
     }
 
     /** Types that grow while nobody looks at them. */
@@ -262,6 +301,7 @@ public final class FaultsTest {
         unified();
         wants();
         sizes();
+        sizesWithin();
         sizesThatGrew();
         Probe.end();
     }
