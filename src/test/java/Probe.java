@@ -1,5 +1,9 @@
+import java.util.regex.Pattern;
+
 /** What the tests share: a text onto the tape, what was written back from it, and a count of what was wrong. */
 final class Probe {
+    private static final Pattern TOKEN =
+        Pattern.compile("'[^']'|[A-Za-z_][A-Za-z0-9_]*|[0-9]+|->|::|=>|[=|;{}()\\[\\],:\\\\]");
     private static int wrong = 0;
     private static int asked = 0;
 
@@ -52,6 +56,35 @@ final class Probe {
             token = x.infer();
         }
         return token == 0 ? x.fault() == 0 ? "ok" : "fault without token" : x.fault() + "@" + (token - 1);
+    }
+
+    /** "ok", or "1@" and the token, of reading a text alone. */
+    static String reading(TypeInference x, String text) {
+        tape(x, text);
+        int token = x.read();
+        return token == 0 ? "ok" : x.fault() + "@" + (token - 1);
+    }
+
+    /** How many tokens stand ahead of the ^ in a text; it marks the token where a fault is due. */
+    static int marked(String text) {
+        return (int) TOKEN.matcher(text.substring(0, text.indexOf('^'))).results().count();
+    }
+
+    static String unmarked(String text) {
+        return text.replace("^", "");
+    }
+
+    /** A text that is read and then has this fault at its ^, with the settings as they are. */
+    static void fault(TypeInference x, int number, String text) {
+        due(text, outcome(x, unmarked(text)), number + "@" + marked(text));
+    }
+
+    static void fault(int number, String text) {
+        fault(new TypeInference(), number, text);
+    }
+
+    static void right(String text) {
+        due(text, outcome(new TypeInference(), text), "ok");
     }
 
     /** The outcome, and behind it the schemes of all LOWs that the unit declares. */
