@@ -164,6 +164,10 @@ public final class SizeEdgesTest {
         String let = "f x = let {g y = case ^eq (x, x, 'c') of {_ -> " + GROW + "{_ -> 'c'}}} in 'c'";
         Probe.right(D + Probe.unmarked(let));
         Probe.fault(10, D + let.replace("(x, x, 'c')", "(x, x, ['c'])"));
+        // At the end of the unit, ahead of its LOWs.
+        String end = "n = (\\x -> case ^eq x x of {_ -> x}) (error []); m x = case [n, (x, x, 'c')] of {_ -> " + GROW + "{_ -> 'c'}}";
+        Probe.right(D + Probe.unmarked(end));
+        Probe.fault(10, D + end.replace("(x, x, 'c')", "(x, x, ['c'])"));
         // In order: what is wanted first is looked at first.
         Probe.fault(8, D + "f x = case (^add 'c', eq (x, x, ['c'])) of {_ -> " + GROW + "{_ -> 'c'}}");
         Probe.fault(10, D + "f x = case (^eq (x, x, ['c']), add 'c') of {_ -> " + GROW + "{_ -> 'c'}}");

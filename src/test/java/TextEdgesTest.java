@@ -51,6 +51,9 @@ public final class TextEdgesTest {
         tokens("f=a::b->c", 7);
         tokens("f=a'b'c", 5);
         tokens("f=\\x->x", 6);
+        tokens("a=b;z=y;fa=fz;fA=fZ;f0=f9;f_=f__", 23);
+        tokens("f A Z AA ZZ A0 Z9 A_=C", 10);
+        tokens("f=0 9 09 90", 6);
         none("f = a::^:b");
         none("f =^=> a");
         none("f ^=> a");
@@ -220,9 +223,15 @@ public final class TextEdgesTest {
         String[] above = {"let {x :: ^a} in x", "let {x :: Eq a => ^a} in x", "let {x :: (Eq a, Eq b) => ^a} in x",
             "let {(^x) = 1} in x", "let {C (^x) = 1} in x", "let {g ((^x)) = 1} in x", "case x of {(^x) -> x}",
             "case x of {x : ^y -> x}", "case x of {C {p = ^y} -> x}", "x :: a -> ^b", "x :: [^b]", "x :: T (^b)",
-            "\\x -> (^x)", "if x then y else (^z)"};
+            "\\x -> (^x)", "if (^x) then y else z", "if x then (^y) else z", "if x then y else (^z)", "(x, (^y))",
+            "(x, y, z, u, [^v])", "[x, [^y]]", "C {p = x, q = (^y)}",
+            "x {p = (^y)}", "case (^x) of {x -> x}", "case x of {x -> (^x)}", "case x of {x -> x; y -> (^y)}",
+            "let {x = (^y)} in x", "let {C = (^x)} in x", "let {} in (^x)"};
         for (String exp : above) {
             none("f = " + "(".repeat(38) + exp);
+        }
+        for (String exp : new String[] {"case x of {[x, (^y)] -> x}", "x :: (a, [^b])", "let {x :: a -> ^b} in x"}) {
+            none("f = " + "(".repeat(37) + exp);
         }
     }
 
@@ -242,6 +251,10 @@ public final class TextEdgesTest {
         good("(".repeat(39) + "x, y" + ")".repeat(39) + " = 1");
         good("(".repeat(40) + ")".repeat(40) + " = 1");
         none("(".repeat(40) + "^x");
+        good("[] = " + "(".repeat(39) + "x" + ")".repeat(39));
+        none("[] = " + "(".repeat(40) + "^x");
+        good("f x = " + "(".repeat(39) + "x" + ")".repeat(39));
+        none("f x = " + "(".repeat(40) + "^x");
         good("[] : ".repeat(39) + "x = 1");
         none("[] : ".repeat(40) + "^x = 1");
         good("f = " + "x : ".repeat(140) + "x");
@@ -335,6 +348,11 @@ public final class TextEdgesTest {
         none("f :: Eq a b ^=> a");
         none("f :: (Eq a, Ord) ^=> a");
         none("f :: (Eq (a)) ^=> a");
+        none("f :: (Eq Int) ^=> a");
+        none("f :: (Eq a, Eq Int) ^=> a");
+        none("f :: (a ^b) => c");
+        none("f :: Eq Int ^=> a");
+        none("f :: a ^b => c");
         good("f :: (Eq a, Eq b, Eq c, Eq d, Eq e, Eq g, Eq h) => a");
         good("f :: (Eq a, Eq b, Eq c, Eq d, Eq e)");
         none("f :: (Eq a, Eq b, Eq c, Eq d, Eq e^, Eq g)");

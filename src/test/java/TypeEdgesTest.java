@@ -81,6 +81,19 @@ public final class TypeEdgesTest {
         typed("f x = less x; g x = (eq x x, f x x)", "Ord a => a -> a -> Bool; Ord a => a -> (Bool, Bool)");
     }
 
+    /** T of new ones, each time; and fields of data that is not the first. */
+    private static void records() {
+        String data = "data T = C {p :: Int} | D {p :: Int}; data U a = E {q :: a} | F {q :: a, r :: Int}; ";
+        typed(data + "f x y = (x {q = 'c'}, y {q = ()})", "U Char -> U () -> (U Char, U ())");
+        typed(data + "f x = (x {q = 'c'}, _ {q = ()})", "U Char -> (U Char, U ())");
+        typed(data + "f x y = (x {q = y}, x)", "U a -> a -> (U a, U a)");
+        typed(data + "f x = x {r = 1}; g x = x {q = 'c', r = 1}", "U a -> U a; U Char -> U Char");
+        Probe.fault(7, data + "f x = x {r = 2} {q = ^x}");
+        typed(data + "f = E {q = 'c'}; g = F {r = 1}; h = q; k = r", "U Char; U a; U a -> a; U a -> Int");
+        typed(data + "f E {q = x} = x; f F {q = 'c'} = 'd'", "U Char -> Char");
+        typed(data + "f x = (p x, \\y -> q y)", "T -> (Int, U a -> a)");
+    }
+
     /** Where ( ) stand, and where they don't. */
     private static void typesWritten() {
         String data = "data T a b = C a b; data U = D; ";
@@ -247,6 +260,11 @@ public final class TypeEdgesTest {
         Probe.right("f y = let {g :: a -> a; g x = case [x, error []] of {_ -> x}} in 'c'");
         Probe.right("f y = let {h z = z; g :: a -> a; g x = case [x, h x] of {_ -> x}} in 'c'");
         Probe.right("f y = let {g :: a -> a; g x = let {z = x} in z} in g y");
+        // FIXED ones are its own, whoever has used it before.
+        Probe.fault(6, "f :: a -> a; g = f; ^f x = 'c'");
+        Probe.fault(6, "f :: a -> a; g = f 'c'; ^f x = 'c'");
+        Probe.fault(6, "f :: a -> a; f x = x; g :: a -> a; ^g x = f 'c'");
+        Probe.fault(6, "f :: a -> a; f x = g x; g :: a -> b; ^g x = f x");
     }
 
     /** GROUPS: "a group comes when all others that it uses have come; of several the one with the least first token". */
@@ -281,12 +299,15 @@ public final class TypeEdgesTest {
         Probe.due("the first", x.group(0), 74);
         Probe.due("all of one", Probe.outcome(x, many.toString().replace("'c'", "x0")), "ok");
         Probe.due("how many", x.told(5), 1);
+        Probe.due("as before", Probe.outcome(x, many.toString()), "ok");
+        Probe.due("how many", x.told(5), 75);
     }
 
     public static void main(String[] args) {
         variablesWritten();
         wantsWritten();
         typesWritten();
+        records();
         classes();
         lists();
         unified();
