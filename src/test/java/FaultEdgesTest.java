@@ -258,6 +258,28 @@ public final class FaultEdgesTest {
         Probe.fault(4, "f True = 1; f 'c' = ^nope");
     }
 
+    /** "at its first token": of each kind of exp and pat. */
+    private static void firstTokens() {
+        String[] exps = {"x", "'a'", "1", "C", "_", "_h", "()", "[]", "('a', 'b')", "['a']", "C 'a'", "x : []", "x :: Char", "x {p = 1}",
+            "E {p = 1}", "E {p = 1} {p = 2}", "\\y -> y", "let {} in x", "if True then x else x", "case x of {_ -> x}"};
+        String data = "data T = C Char | E {p :: Int}; ";
+        for (String exp : exps) {
+            String x = data + "f x = ";
+            Probe.fault(6, x + "'c' (^" + exp + ")");
+            Probe.fault(6, x + "'c' ((^" + exp + "))");
+        }
+        String[] pats = {"'a'", "C _", "()", "[]", "(_, _)", "[_]", "_ : _", "E {p = 1}", "True"};
+        for (String pat : pats) {
+            Probe.fault(6, data + "f = case (1, 2, 3) of {^" + pat + " -> 1}");
+            Probe.fault(6, data + "f = case (1, 2, 3) of {((^" + pat + ")) -> 1}");
+            Probe.fault(6, data + "(^" + pat + ") = (1, 2, 3)");
+        }
+        Probe.fault(8, "f ^1 = 'a'; f 'c' = 'b'");
+        Probe.fault(8, "data N = N; f ^1 = 'a'; f N = 'b'");
+        Probe.fault(8, "f = case (\\x -> x) of {^1 -> 'a'}");
+        Probe.fault(6, "data T = C Int; f = x 'c'; C ^x = C f");
+    }
+
     /** "8 a want that nothing gives. 9 one that nothing settles", and 6 where a given type is checked. */
     private static void wants() {
         Probe.fault(8, "f x = (eq [] [], ^add 'c')");
@@ -291,6 +313,7 @@ public final class FaultEdgesTest {
         countsOfPats();
         lowsOfPats();
         firstOfTwo();
+        firstTokens();
         wants();
         Probe.end();
     }

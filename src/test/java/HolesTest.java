@@ -48,6 +48,7 @@ public final class HolesTest {
         fitting("x = 'c'; f = ['c', let {x = _} in 'd']", "a / 11");
         fitting("f eq = [_, eq]", "a / 1");
         fitting("f eq = _ 'a' 'b' :: Bool", "Char -> Char -> Bool / -5");
+        fitting("data T = C {p :: Char, q :: Char}; f p = ['c', _ (error [] :: T)]", "T -> Char / 9");
         fitting("f = ['c', _]; g = 'd'; h x = x; k = error []", "Char / 8 17");
         fitting("f = ('c' : [_]); g = (\\x -> x) (\\x -> 'c')", "Char /");
         fitting("f = case 'c' of {x -> [x, _]; y -> \"\"}", "1@16");
