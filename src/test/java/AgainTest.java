@@ -20,9 +20,11 @@ public final class AgainTest {
             "f x = (eq x x, add x x, less y y); y = error []", "f = add; g = f 1; h = eq", "f = eq 'c'; g = f; h x = [x, 1]",
             "f :: (Eq a, Num b) => a -> b; f x = 1; g x = let {h :: c -> c; h y = y} in (h x, f x)", "f :: a -> a; f x = 'c'",
             "f = 1; f = 2", "f = nope", "data T = C Int; f C = 1", "f = 'c' 'c'", "f x = x x", "f x = less (x, \\y -> y)", "f x = eq [] []",
-            Sizes.D + "f = " + Sizes.exp(61), Sizes.D + "f = " + Sizes.exp(60), "f = [eq 1 2, add 1 'c' 2]", "data Int = C", "data T = C Foo",
+            Sizes.D + "f = " + Sizes.exp(61), Sizes.D + "f = " + Sizes.exp(60), "f = [eq 1 2, add 1 'c' 2]",
+            "data Int = C", "data T = C Foo",
             "f x = let {g y = (x, y); h = add} in (g 1, g 'c', h 1 2)",
-            "f x = let {g y = let {h z = (x, y, z, eq z)} in h} in (g 1, g)", "f = let {g = eq; h y = g y; k y = y} in (h 1, k 2, h, k, _)", "(f, g) = (\\x -> [x, _], _); [h] : k = [[f, \\y -> [g]]]"};
+            "f x = let {g y = let {h z = (x, y, z, eq z)} in h} in (g 1, g)", "f = let {g = eq; h y = g y; k y = y} in (h 1, k 2, h, k, _)",
+            "(f, g) = (\\x -> [x, _], _); [h] : k = [[f, \\y -> [g]]]"};
     }
 
     /** All that can be asked of a text, once it is read and typed; behind fault 1 the unit before stays. */

@@ -202,8 +202,8 @@ public final class CallEdgesTest {
         is("infer", x.infer(), 0);
         is("infer", x.infer(), 0);
         is("type", Probe.scheme(x, 0), "Char");
-        String[] wrong = {"f = )", "data Int = C", "f = 1; f = 2", "f = x", "data T = C Int; f C = 1", "f = 'c' 'c'", "f x = x x", "f = add 'c'",
-            "f = eq", "f :: " + Sizes.type(61) + "; f = f"};
+        String[] wrong = {"f = )", "data Int = C", "f = 1; f = 2", "f = x", "data T = C Int; f C = 1", "f = 'c' 'c'", "f x = x x",
+            "f = add 'c'", "f = eq", "f :: " + Sizes.type(61) + "; f = f"};
         int[] token = {2, 1, 4, 2, 7, 3, 4, 2, 2, 0};
         for (int i = 0; i < wrong.length; i++) {
             is(wrong[i], Probe.outcome(x, wrong[i]), (i + 1) + "@" + token[i]);

@@ -293,7 +293,8 @@ public final class TextEdgesTest {
 
     private static final String RICH = "data T a b = A | B a [T a b] () (a, b) | C { p :: a -> b , q :: ( Int ) } deriving ( Eq , Ord ) ; "
         + "f :: ( Eq a , Num b ) => T a [ b ] -> ( ) ; g :: Ord a => a ; f A ( B x _ ) [ 1 , 'c' ] = \\ ( x : y ) C { p = z } -> x y ; "
-        + "( g , [ ] ) = let { h = if x then ( ) else [ ] ; k :: a ; } in case x : y : z of { C x y : z -> _h 1 ; _ -> A { p = x , q = _ } { p = 1 } ; } ; "
+        + "( g , [ ] ) = let { h = if x then ( ) else [ ] ; k :: a ; } in "
+        + "case x : y : z of { C x y : z -> _h 1 ; _ -> A { p = x , q = _ } { p = 1 } ; } ; "
         + "[ u ] : v = ( x , ( y ) , [ z , z ] ) :: [ T a ] -> b ;";
 
     /** "how many there are, if it ends too early; what begins no token counts as one there". */

@@ -44,7 +44,8 @@ public final class TypeEdgesTest {
         Probe.due("the 26th", variables(28)[25] + " " + variables(28)[26] + " " + variables(28)[27], "z a1 b1");
         typed("f" + " _".repeat(29) + " = _", String.join(" -> ", variables(30)));
         String five = "(_, _, _, _, _)";
-        String most = "f (" + String.join(", ", five, five, five, five, five) + ") = (" + String.join(", ", five, five, five, five, "_") + ")";
+        String four = String.join(", ", five, five, five, five);
+        String most = "f (" + four + ", " + five + ") = (" + four + ", _)";
         String[] names = variables(46);
         StringBuilder due = new StringBuilder("(" + tuple(names, 0, 5));
         for (int i = 5; i < 45; i += 5) {
