@@ -156,6 +156,8 @@ public final class FaultsTest {
         typed("(x, y) = True", "6@0");
         typed("((x, y)) = True", "6@1");
         typed("(x) = (x, x)", "7@1");
+        // The LOWs of a pat = exp are looked at when the whole pat is typed.
+        typed("f = x True; [x, 'c'] = [f]", "6@6");
         typed("f = (1, 2, 3) : [(1, 2)]", "6@9");
         typed("data T a = C a (T a); f (C 'c' (C True x)) = x", "6@16");
         typed("data T = C {a :: Int}; f = C {a = ('c')}", "6@17");
