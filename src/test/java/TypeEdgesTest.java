@@ -252,6 +252,18 @@ public final class TypeEdgesTest {
             "Eq a => a -> a -> Bool; Eq a => a -> a -> Bool; Char -> Bool; () -> Bool");
     }
 
+    /** "what has one in a type of the group is a want of each LOW of it that has it", and of no other one. */
+    private static void sharedWants() {
+        String pair = "f x = (g x, 1); g x = if eq x x then 'c' else (\\y -> 'd') (f x)";
+        typed(pair, "(Eq a, Num b) => a -> (Char, b); Eq a => a -> Char");
+        typed(pair + "; h = (g True, f 'c')", "(Eq a, Num b) => a -> (Char, b); Eq a => a -> Char; (Char, (Char, Int))");
+        Probe.fault(8, pair + "; h = ^g (\\x -> x)");
+        set(false, true, "(f, g) = (2, less)", "Num a => a; Ord a => a -> a -> Bool");
+        set(false, true, "f = if g then [] else f; g = less _ f", "Ord a => [a]; Bool");
+        set(false, true, "f = case h of {x -> False}; g y = f; h x = (eq, f)", "Bool; a -> Bool; Eq b => a -> (b -> b -> Bool, Bool)");
+        set(false, true, "f x = let {(g, h) = (2, less)} in (g, h x)", "(Ord a, Num b) => a -> (b, a -> Bool)");
+    }
+
     /** CHECKED: "6, at its first token, if a FIXED type of its given one is in the type of a LOW around, or of these decls". */
     private static void checked() {
         Probe.fault(6, "f y = let {g :: a -> a; ^g x = case [x, y] of {_ -> x}} in 'c'");
@@ -315,6 +327,7 @@ public final class TypeEdgesTest {
         settled();
         settings();
         narrowGroups();
+        sharedWants();
         checked();
         groups();
         Probe.end();
